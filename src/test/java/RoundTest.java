@@ -1,0 +1,143 @@
+import java.math.BigInteger;
+
+/** Promise 11, and FLOATS and ROUNDED of the terms: round. */
+public final class RoundTest {
+    private static final Check CHECK = new Check("RoundTest");
+    private static final long MOST = Double.doubleToLongBits(Double.MAX_VALUE);
+    private static final long INFINITY = Double.doubleToLongBits(Double.POSITIVE_INFINITY);
+    private static final long SIGN = Long.MIN_VALUE;
+
+    public static void main(String[] args) {
+        noSuchNumber();
+        zeros();
+        thirds();
+        exactFloats();
+        top();
+        bottom();
+        normalEdge();
+        tinyRemainders();
+        CHECK.end();
+    }
+
+    /** Number 0 as it is and with its sign turned round: both sides of both. */
+    private static void sides(String what, ExactFractions x, int e, long down, long up) {
+        x.scale(0, false, e);
+        CHECK.due(what + " down", x.round(0, false), down);
+        CHECK.due(what + " up", x.round(0, true), up);
+        x.scale(0, true, e);
+        CHECK.due("-" + what + " down", x.round(0, false), up == 0 ? 0 : up | SIGN);
+        CHECK.due("-" + what + " up", x.round(0, true), down == 0 ? 0 : down | SIGN);
+    }
+
+    private static ExactFractions of(BigInteger above, BigInteger under) {
+        ExactFractions x = new ExactFractions();
+        Numbers.put(x, 0, 0, above);
+        Numbers.put(x, 0, 1, under);
+        return x;
+    }
+
+    private static void noSuchNumber() {
+        ExactFractions x = new ExactFractions();
+        for (int no : Numbers.NO_SUCH) {
+            CHECK.due("round(" + no + ", false)", x.round(no, false), 9221120237041090560L);
+            CHECK.due("round(" + no + ", true)", x.round(no, true), 9221120237041090560L);
+        }
+    }
+
+    private static void zeros() {
+        for (int e : new int[] {-12000, -1, 0, 1, 12000}) {
+            sides("0 * 2 ^ " + e, of(BigInteger.ZERO, Numbers.ones(70)), e, 0, 0);
+        }
+    }
+
+    private static void thirds() {
+        ExactFractions x = new ExactFractions();
+        Numbers.put(x, 1, 1, 3, false, 0);
+        CHECK.due("1 / 3 down", x.round(1, false), 4599676419421066581L);
+        CHECK.due("1 / 3 up", x.round(1, true), 4599676419421066582L);
+        Numbers.put(x, 1, 1, 3, true, 0);
+        CHECK.due("-1 / 3 down", x.round(1, false), 4599676419421066582L | SIGN);
+        CHECK.due("-1 / 3 up", x.round(1, true), 4599676419421066581L | SIGN);
+        CHECK.due("number 0 is still 0", x.round(0, true), 0);
+    }
+
+    /** A float is rounded to itself; a little more or less goes to its neighbours. */
+    private static void exactFloats() {
+        double[] floats = {1, 2, 0.5, 1.5, Math.PI, 1e300, 1e-300, 0x1.fffffffffffffp0, 0x1.0000000000001p0,
+            Double.MIN_NORMAL, 0x1.fffffffffffffp-1022, Double.MIN_VALUE, 3 * Double.MIN_VALUE,
+            Math.nextDown(Double.MIN_NORMAL), Math.nextUp(Double.MIN_NORMAL), 0x0.8p-1022, Double.MAX_VALUE,
+            Math.nextDown(Double.MAX_VALUE), 0x1p1023, 0x1p53, 0x1p52, 12345.678};
+        for (double d : floats) {
+            long bits = Double.doubleToLongBits(d);
+            long e = bits >>> 52;
+            long factor = (bits & (1L << 52) - 1) + (e == 0 ? 0 : 1L << 52);
+            int power = (int) Math.max(1, e) - 1075;
+            for (int more = 0; more < 200; more += 67) {
+                BigInteger above = BigInteger.valueOf(factor).shiftLeft(more);
+                BigInteger under = BigInteger.valueOf(7);
+                BigInteger seven = above.multiply(under);
+                sides(d + "", of(seven, under), power - more, bits, bits);
+                if (more > 0) {
+                    sides("above " + d, of(seven.add(BigInteger.ONE), under), power - more, bits, bits + 1);
+                    sides("below " + d, of(seven.subtract(BigInteger.ONE), under), power - more, bits - 1, bits);
+                }
+            }
+        }
+    }
+
+    private static void top() {
+        BigInteger most = Numbers.ones(53);
+        sides("the greatest float", of(most, BigInteger.ONE), 971, MOST, MOST);
+        sides("just above it", of(most.shiftLeft(4000).add(BigInteger.ONE), Numbers.power(4000)), 971, MOST, INFINITY);
+        sides("half a step above it", of(Numbers.ones(54), BigInteger.ONE), 970, MOST, INFINITY);
+        sides("2 ^ 1024", of(BigInteger.ONE, BigInteger.ONE), 1024, MOST, INFINITY);
+        sides("just below 2 ^ 1024", of(Numbers.ones(4800), Numbers.power(4799)), 1023, MOST, INFINITY);
+        sides("2 ^ 1025 / 3", of(BigInteger.ONE, BigInteger.valueOf(3)), 1025,
+                0x7FE5555555555555L, 0x7FE5555555555556L);
+        sides("2 ^ 1026 / 3", of(BigInteger.ONE, BigInteger.valueOf(3)), 1026, MOST, INFINITY);
+        sides("2 ^ 12000", of(BigInteger.ONE, BigInteger.ONE), 12000, MOST, INFINITY);
+        sides("2 ^ 16799", of(Numbers.power(4799), BigInteger.ONE), 12000, MOST, INFINITY);
+    }
+
+    private static void bottom() {
+        BigInteger one = BigInteger.ONE;
+        sides("2 ^ -1074", of(one, one), -1074, 1, 1);
+        sides("2 ^ -1075", of(one, one), -1075, 0, 1);
+        sides("2 ^ -1076", of(one, one), -1076, 0, 1);
+        sides("3 * 2 ^ -1075", of(BigInteger.valueOf(3), one), -1075, 1, 2);
+        sides("2 ^ -1074 / 3", of(one, BigInteger.valueOf(3)), -1074, 0, 1);
+        sides("2 ^ -1074 * 4 / 3", of(BigInteger.valueOf(4), BigInteger.valueOf(3)), -1074, 1, 2);
+        sides("just above 2 ^ -1074", of(Numbers.power(4000).add(one), Numbers.power(4000)), -1074, 1, 2);
+        sides("just below 2 ^ -1074", of(Numbers.power(4000), Numbers.power(4000).add(one)), -1074, 0, 1);
+        sides("just below 2 ^ -1073", of(Numbers.ones(4000), Numbers.power(3999)), -1074, 1, 2);
+        sides("2 ^ -12000", of(one, one), -12000, 0, 1);
+        sides("2 ^ -16799", of(one, Numbers.power(4799)), -12000, 0, 1);
+        sides("-12000 and a long above", of(Numbers.ones(4800), one), -12000, 0, 1);
+    }
+
+    /** Where floats with E = 0 meet those with E = 1. */
+    private static void normalEdge() {
+        long least = 1L << 52;
+        BigInteger one = BigInteger.ONE;
+        sides("2 ^ -1022", of(one, one), -1022, least, least);
+        sides("just below 2 ^ -1022", of(Numbers.ones(4000), Numbers.power(4000)), -1022, least - 1, least);
+        sides("just above 2 ^ -1022", of(Numbers.power(4000).add(one), Numbers.power(4000)), -1022, least, least + 1);
+        sides("the last below 2 ^ -1022", of(Numbers.ones(52), one), -1074, least - 1, least - 1);
+        sides("half a step below 2 ^ -1022", of(Numbers.ones(53), one), -1075, least - 1, least);
+        sides("just below 2 ^ -1021", of(Numbers.ones(4000), Numbers.power(4000)), -1021, 2 * least - 1, 2 * least);
+        sides("2 ^ -1021", of(one, one), -1021, 2 * least, 2 * least);
+    }
+
+    /** Rounded just once: a rest far beyond the 53 bits still counts, and no rest does not. */
+    private static void tinyRemainders() {
+        long one = Double.doubleToLongBits(1.0);
+        BigInteger far = Numbers.power(4799);
+        sides("1 and 2 ^ -4799", of(far.add(BigInteger.ONE), far), 0, one, one + 1);
+        sides("1 less 2 ^ -4799", of(far.subtract(BigInteger.ONE), far), 0, one - 1, one);
+        sides("1 over 1 and 2 ^ -4799", of(far, far.add(BigInteger.ONE)), 0, one - 1, one);
+        sides("ones over ones", of(Numbers.ones(4800), Numbers.ones(4800)), 0, one, one);
+        sides("4800 ones", of(Numbers.ones(4800), BigInteger.ONE), -4799,
+                Double.doubleToLongBits(Math.nextDown(2.0)), Double.doubleToLongBits(2.0));
+        sides("1 over 4800 ones", of(BigInteger.ONE, Numbers.ones(4800)), 4800, one, one + 1);
+    }
+}
