@@ -207,7 +207,7 @@ public final class ExactFractions {
 
     /**
      * Puts above and under in left and right, shifted so that left / right is
-     * from 1 on and less than 2: by which power of 2 it falls short of the number.
+     * from 1 on and less than 2: which power of 2 makes it the number again.
      */
     private int layOut(Fraction fraction) {
         left.copy(fraction.above);
@@ -222,16 +222,16 @@ public final class ExactFractions {
 
     /** So many binary digits of left / right, which is less than 2; the rest stays in left. */
     private long quotient(int digits) {
-        long quotient = 0;
+        long found = 0;
         for (int i = 0; i < digits; i++) {
-            quotient <<= 1;
+            found <<= 1;
             if (left.order(right) >= 0) {
                 left.becomeDifference(left, right);
-                quotient |= 1;
+                found |= 1;
             }
             left.shiftUp(1);
         }
-        return quotient;
+        return found;
     }
 
     /** above / under * 2 ^ exponent, below 0 or not. */

@@ -1,4 +1,5 @@
 import java.math.BigInteger;
+import java.util.Random;
 
 /** Promise 10: compare. */
 public final class CompareTest {
@@ -10,10 +11,11 @@ public final class CompareTest {
         exponents();
         longOnes();
         longNeighbours();
+        crossFactors();
         CHECK.end();
     }
 
-    private static void both(String what, ExactFractions x, int want) {
+    private static void due(String what, ExactFractions x, int want) {
         CHECK.due("compare() of " + what, x.compare(), want);
     }
 
@@ -26,7 +28,7 @@ public final class CompareTest {
                     for (int d = 1; d <= 5; d++) {
                         Numbers.put(x, 0, Math.abs(a), b, a < 0, 0);
                         Numbers.put(x, 1, Math.abs(c), d, c < 0, 0);
-                        both(a + "/" + b + " and " + c + "/" + d, x, Integer.compare(a * d, c * b));
+                        due(a + "/" + b + " and " + c + "/" + d, x, Integer.compare(a * d, c * b));
                     }
                 }
             }
@@ -38,12 +40,12 @@ public final class CompareTest {
         for (int signs = 0; signs < 4; signs++) {
             Numbers.put(x, 0, 0, 9, (signs & 1) != 0, 12000);
             Numbers.put(x, 1, 0, 2, (signs & 2) != 0, -12000);
-            both("two zeros", x, 0);
+            due("two zeros", x, 0);
             x.set(1, 0, 1);
-            both("0 and a number of either sign", x, (signs & 2) != 0 ? 1 : -1);
+            due("0 and a number of either sign", x, (signs & 2) != 0 ? 1 : -1);
             x.set(1, 0, 0);
             x.set(0, 0, 1);
-            both("a number of either sign and 0", x, (signs & 1) != 0 ? -1 : 1);
+            due("a number of either sign and 0", x, (signs & 1) != 0 ? -1 : 1);
         }
     }
 
@@ -53,24 +55,24 @@ public final class CompareTest {
         for (int e = 0; e <= 63; e++) {
             Numbers.put(x, 0, 1L << e, 1, false, -e);
             Numbers.put(x, 1, 1, 1L << (63 - e), false, 63 - e);
-            both("1 and 1 at " + e, x, 0);
+            due("1 and 1 at " + e, x, 0);
             x.scale(1, false, 64 - e);
-            both("1 and 2 at " + e, x, -1);
+            due("1 and 2 at " + e, x, -1);
             x.scale(0, false, 2 - e);
-            both("4 and 2 at " + e, x, 1);
+            due("4 and 2 at " + e, x, 1);
             x.scale(0, true, 2 - e);
             x.scale(1, true, 64 - e);
-            both("-4 and -2 at " + e, x, -1);
+            due("-4 and -2 at " + e, x, -1);
         }
         Numbers.put(x, 0, 1, 1, false, 12000);
         Numbers.put(x, 1, -1, 1, false, -12000);
-        both("2 ^ 12000 and a tiny one", x, 1);
+        due("2 ^ 12000 and a tiny one", x, 1);
         x.scale(1, true, 12000);
-        both("2 ^ 12000 and -(2 ^ 64 - 1) * 2 ^ 12000", x, 1);
+        due("2 ^ 12000 and -(2 ^ 64 - 1) * 2 ^ 12000", x, 1);
         x.scale(0, true, 12000);
-        both("the same below 0", x, 1);
+        due("the same below 0", x, 1);
         x.scale(1, true, -12000);
-        both("-2 ^ 12000 and a tiny one below 0", x, -1);
+        due("-2 ^ 12000 and a tiny one below 0", x, -1);
     }
 
     /** All four parts have 4800 bits, so that the products are as long as they can be. */
@@ -81,30 +83,30 @@ public final class CompareTest {
                 Numbers.put(x, number, part, Numbers.ones(4800));
             }
         }
-        both("two ones of 4800 bits", x, 0);
+        due("two ones of 4800 bits", x, 0);
         x.scale(0, true, 0);
         x.scale(1, true, 0);
-        both("two ones below 0", x, 0);
+        due("two ones below 0", x, 0);
         Numbers.put(x, 0, 0, Numbers.ones(4800).subtract(BigInteger.ONE));
-        both("just above -1, and -1", x, 1);
+        due("just above -1, and -1", x, 1);
         // Number 1 is now less by one in above and under, so nearer still.
         Numbers.put(x, 1, 0, Numbers.ones(4800).subtract(BigInteger.TWO));
         Numbers.put(x, 1, 1, Numbers.ones(4800).subtract(BigInteger.ONE));
-        both("neighbours below 0", x, -1);
+        due("neighbours below 0", x, -1);
         x.scale(0, false, 0);
         x.scale(1, false, 0);
-        both("neighbours", x, 1);
+        due("neighbours", x, 1);
         Numbers.put(x, 0, 0, Numbers.power(4799));
         Numbers.put(x, 0, 1, BigInteger.ONE);
         Numbers.put(x, 1, 0, BigInteger.ONE);
         Numbers.put(x, 1, 1, Numbers.power(4799));
         x.scale(0, false, -4799);
         x.scale(1, false, 4799);
-        both("1 and 1 with their bits apart", x, 0);
+        due("1 and 1 with their bits apart", x, 0);
         Numbers.put(x, 1, 1, Numbers.ones(4799));
-        both("1 and just above", x, -1);
+        due("1 and just above", x, -1);
         Numbers.put(x, 1, 1, Numbers.power(4799).add(BigInteger.ONE));
-        both("1 and just below", x, 1);
+        due("1 and just below", x, 1);
     }
 
     /** A factor that both parts have makes no difference, one that one part has does. */
@@ -118,11 +120,45 @@ public final class CompareTest {
             Numbers.put(x, 0, 1, under);
             x.scale(0, false, 0);
             Numbers.put(x, 1, 355, 113, false, shift);
-            both("355 / 113 at " + shift, x, 0);
+            due("355 / 113 at " + shift, x, 0);
             Numbers.put(x, 0, 0, above.add(BigInteger.ONE));
-            both("just above 355 / 113 at " + shift, x, 1);
+            due("just above 355 / 113 at " + shift, x, 1);
             Numbers.put(x, 0, 0, above.subtract(BigInteger.ONE));
-            both("just below 355 / 113 at " + shift, x, -1);
+            due("just below 355 / 113 at " + shift, x, -1);
         }
+    }
+
+    /** One value with two unlike factors: equal only if every carry of both long products is right. */
+    private static void crossFactors() {
+        Random random = new Random(10);
+        for (int i = 0; i < 100; i++) {
+            BigInteger above = odd(1 + random.nextInt(2400), random);
+            BigInteger under = odd(1 + random.nextInt(2400), random);
+            BigInteger factor = odd(1 + random.nextInt(2300), random);
+            BigInteger otherFactor = odd(1 + random.nextInt(2300), random);
+            int shift = random.nextInt(100);
+            int e = random.nextInt(23000) - 11500;
+            boolean below = random.nextBoolean();
+            ExactFractions x = new ExactFractions();
+            Numbers.put(x, 0, 0, above.multiply(factor).shiftLeft(shift));
+            Numbers.put(x, 0, 1, under.multiply(factor));
+            x.scale(0, below, e);
+            Numbers.put(x, 1, 0, above.multiply(otherFactor));
+            Numbers.put(x, 1, 1, under.multiply(otherFactor));
+            x.scale(1, below, e + shift);
+            due("equals, try " + i, x, 0);
+            x.digit(0, 0, 1, 1);
+            due("a bit more in number 0, try " + i, x, below ? -1 : 1);
+            Numbers.put(x, 0, 0, above.multiply(factor).shiftLeft(shift));
+            x.digit(0, 1, 1, 1);
+            due("a bit less in number 0, try " + i, x, below ? 1 : -1);
+            Numbers.put(x, 0, 1, under.multiply(factor));
+            x.digit(1, 0, 1, 1);
+            due("a bit more in number 1, try " + i, x, below ? 1 : -1);
+        }
+    }
+
+    private static BigInteger odd(int bits, Random random) {
+        return new BigInteger(bits, random).setBit(0);
     }
 }

@@ -1,4 +1,5 @@
 import java.math.BigInteger;
+import java.util.Random;
 
 /** Promise 11, and FLOATS and ROUNDED of the terms: round. */
 public final class RoundTest {
@@ -16,6 +17,7 @@ public final class RoundTest {
         bottom();
         normalEdge();
         tinyRemainders();
+        longDivisors();
         CHECK.end();
     }
 
@@ -139,5 +141,24 @@ public final class RoundTest {
         sides("4800 ones", of(Numbers.ones(4800), BigInteger.ONE), -4799,
                 Double.doubleToLongBits(Math.nextDown(2.0)), Double.doubleToLongBits(2.0));
         sides("1 over 4800 ones", of(BigInteger.ONE, Numbers.ones(4800)), 4800, one, one + 1);
+    }
+
+    /** A float times a long under, over that under: just the float; then one more and one less. */
+    private static void longDivisors() {
+        Random random = new Random(11);
+        for (int i = 0; i < 100; i++) {
+            // Every fourth float has E = 0.
+            long bits = i % 4 == 0 ? random.nextLong() >>> 12 : random.nextLong() >>> 1;
+            bits = Math.max(2, Math.min(bits, MOST - 1));
+            long e = bits >>> 52;
+            long factor = (bits & (1L << 52) - 1) + (e == 0 ? 0 : 1L << 52);
+            int power = (int) Math.max(1, e) - 1075;
+            BigInteger under = new BigInteger(100 + random.nextInt(4600), random).setBit(70);
+            BigInteger above = under.multiply(BigInteger.valueOf(factor));
+            String what = Double.longBitsToDouble(bits) + ", try " + i;
+            sides(what, of(above, under), power, bits, bits);
+            sides("above " + what, of(above.add(BigInteger.ONE), under), power, bits, bits + 1);
+            sides("below " + what, of(above.subtract(BigInteger.ONE), under), power, bits - 1, bits);
+        }
     }
 }
