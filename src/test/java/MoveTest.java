@@ -110,9 +110,7 @@ public final class MoveTest {
     }
 
     private static void bad() {
-        ExactFractions x = new ExactFractions();
-        Numbers.put(x, 0, 77, 5, true, 3);
-        Numbers.put(x, 1, 99, 7, false, -3);
+        ExactFractions x = Numbers.sample();
         String before = Numbers.state(x);
         for (int no : Numbers.NO_SUCH) {
             CHECK.due("move(" + no + ", false)", x.move(no, false), ExactFractions.BAD);

@@ -35,6 +35,14 @@ final class Numbers {
         x.scale(number, below, e);
     }
 
+    /** -77 / 5 * 2 ^ 3 and 99 / 7 * 2 ^ -3: a state in which every change shows. */
+    static ExactFractions sample() {
+        ExactFractions x = new ExactFractions();
+        put(x, 0, 77, 5, true, 3);
+        put(x, 1, 99, 7, false, -3);
+        return x;
+    }
+
     static BigInteger read(ExactFractions x, int number, int part) {
         BigInteger value = BigInteger.ZERO;
         for (int i = 151; i >= 0; i--) {

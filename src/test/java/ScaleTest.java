@@ -56,9 +56,7 @@ public final class ScaleTest {
     }
 
     private static void bad() {
-        ExactFractions x = new ExactFractions();
-        Numbers.put(x, 0, 77, 5, true, 3);
-        Numbers.put(x, 1, 99, 7, false, -3);
+        ExactFractions x = Numbers.sample();
         String before = Numbers.state(x);
         for (int no : Numbers.NO_SUCH) {
             CHECK.due("scale(" + no + ", false, 0)", x.scale(no, false, 0), ExactFractions.BAD);

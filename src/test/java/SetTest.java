@@ -36,9 +36,7 @@ public final class SetTest {
     }
 
     private static void zero() {
-        ExactFractions x = new ExactFractions();
-        Numbers.put(x, 0, 77, 5, true, 3);
-        Numbers.put(x, 1, 99, 7, false, -3);
+        ExactFractions x = Numbers.sample();
         String before = Numbers.state(x);
         CHECK.due("set(0, 1, 0)", x.set(0, 1, 0), ExactFractions.ZERO);
         CHECK.due("set(1, 1, 0)", x.set(1, 1, 0), ExactFractions.ZERO);
@@ -62,9 +60,7 @@ public final class SetTest {
     }
 
     private static void bad() {
-        ExactFractions x = new ExactFractions();
-        Numbers.put(x, 0, 77, 5, true, 3);
-        Numbers.put(x, 1, 99, 7, false, -3);
+        ExactFractions x = Numbers.sample();
         String before = Numbers.state(x);
         for (int no : Numbers.NO_SUCH) {
             for (int ok = 0; ok < 2; ok++) {
