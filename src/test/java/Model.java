@@ -1,7 +1,7 @@
 import java.math.BigInteger;
 
 /** The document again, over BigInteger and by other ways than the class: what is due. */
-final class Model {
+final class Model implements Fractions {
     static final long INFINITY = 2047L << 52;
     static final long NOT_A_NUMBER = 9221120237041090560L;
 
@@ -18,7 +18,7 @@ final class Model {
         return n == 0 || n == 1;
     }
 
-    int begin(int number) {
+    public int begin(int number) {
         if (!is01(number)) {
             return -1;
         }
@@ -37,7 +37,7 @@ final class Model {
         return value.bitLength();
     }
 
-    int digit(int number, int part, int by, int more) {
+    public int digit(int number, int part, int by, int more) {
         if (!is01(number) || !is01(part) || by < 1 || by > 1000000 || more < 0 || more > 1000000) {
             return -1;
         }
@@ -45,7 +45,7 @@ final class Model {
                 parts[number][part].multiply(BigInteger.valueOf(by)).add(BigInteger.valueOf(more)));
     }
 
-    int set(int number, int part, long v) {
+    public int set(int number, int part, long v) {
         if (!is01(number) || !is01(part)) {
             return -1;
         }
@@ -55,7 +55,7 @@ final class Model {
         return keep(number, part, new BigInteger(Long.toUnsignedString(v)));
     }
 
-    int scale(int number, boolean isBelow, int e) {
+    public int scale(int number, boolean isBelow, int e) {
         if (!is01(number) || e < -12000 || e > 12000) {
             return -1;
         }
@@ -64,7 +64,7 @@ final class Model {
         return 0;
     }
 
-    int turn(int number) {
+    public int turn(int number) {
         if (!is01(number)) {
             return -1;
         }
@@ -82,7 +82,7 @@ final class Model {
         return below[number] ? parts[number][0].negate() : parts[number][0];
     }
 
-    int move(int number, boolean down) {
+    public int move(int number, boolean down) {
         if (!is01(number)) {
             return -1;
         }
@@ -95,18 +95,18 @@ final class Model {
         return answer;
     }
 
-    int bits(int number, int part) {
+    public int bits(int number, int part) {
         return is01(number) && is01(part) ? parts[number][part].bitLength() : -1;
     }
 
-    int word(int number, int part, int i) {
+    public int word(int number, int part, int i) {
         if (!is01(number) || !is01(part) || i < 0 || i >= 150) {
             return 0;
         }
         return parts[number][part].shiftRight(32 * i).intValue();
     }
 
-    int compare() {
+    public int compare() {
         int least = Math.min(exponents[0], exponents[1]);
         BigInteger one = signedAbove(0).multiply(parts[1][1]).shiftLeft(exponents[0] - least);
         BigInteger other = signedAbove(1).multiply(parts[0][1]).shiftLeft(exponents[1] - least);
@@ -114,7 +114,7 @@ final class Model {
     }
 
     /** Looks for the float among all of them, by halves, as the document's words say. */
-    long round(int number, boolean up) {
+    public long round(int number, boolean up) {
         if (!is01(number)) {
             return NOT_A_NUMBER;
         }

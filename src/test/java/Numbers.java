@@ -1,8 +1,10 @@
 import java.math.BigInteger;
 
-/** Puts long whole numbers into an object, and reads its state, by calls of the face alone. */
+/** Puts long whole numbers into an object and reads them, by calls of the face alone. */
 final class Numbers {
     static final int[] NO_SUCH = {-1, 2, 3, -2, 32, Integer.MAX_VALUE, Integer.MIN_VALUE};
+
+    private static final int DIGIT_BITS = 19;
 
     private Numbers() {
     }
@@ -16,51 +18,47 @@ final class Numbers {
         return power(bits).subtract(BigInteger.ONE);
     }
 
-    /**
-     * A part becomes a value, by set for its upper bits and digit for all others.
-     * For long parts that takes more than the 512 calls of the document; this
-     * program answers later calls like earlier ones, and the tests lean on it.
-     */
-    static void put(ExactFractions x, int number, int part, BigInteger value) {
-        int lower = Math.max(0, (value.bitLength() - 33) / 16) * 16;
-        x.set(number, part, value.shiftRight(lower).longValueExact());
-        for (int from = lower - 16; from >= 0; from -= 16) {
-            x.digit(number, part, 1 << 16, value.shiftRight(from).intValue() & 0xFFFF);
+    static BigInteger unsigned(long v) {
+        return new BigInteger(Long.toUnsignedString(v));
+    }
+
+    /** A part becomes a value, by set for its upper bits and digit for all others: 251 calls at most. */
+    static void put(Fractions x, int number, int part, BigInteger value) {
+        int digits = (Math.max(0, value.bitLength() - 64) + DIGIT_BITS - 1) / DIGIT_BITS;
+        x.set(number, part, value.shiftRight(digits * DIGIT_BITS).longValue());
+        for (int i = digits - 1; i >= 0; i--) {
+            int digit = value.shiftRight(i * DIGIT_BITS).intValue() & (1 << DIGIT_BITS) - 1;
+            x.digit(number, part, 1 << DIGIT_BITS, digit);
         }
     }
 
-    static void put(ExactFractions x, int number, long above, long under, boolean below, int e) {
+    static void put(Fractions x, int number, long above, long under, boolean below, int e) {
         x.set(number, 0, above);
         x.set(number, 1, under);
         x.scale(number, below, e);
     }
 
-    /** -77 / 5 * 2 ^ 3 and 99 / 7 * 2 ^ -3: a state in which every change shows. */
-    static ExactFractions sample() {
-        ExactFractions x = new ExactFractions();
-        put(x, 0, 77, 5, true, 3);
-        put(x, 1, 99, 7, false, -3);
-        return x;
+    /**
+     * All four parts of a new object become one value. The digits of four long
+     * parts would take more calls than an object has; moves and turns copy one.
+     */
+    static void putAll(Fractions x, BigInteger value) {
+        put(x, 0, 0, value);
+        x.move(1, false);
+        x.turn(1);
+        x.set(1, 0, 0);
+        x.move(1, false);
+        x.turn(0);
+        x.set(0, 0, 0);
+        x.move(0, false);
     }
 
-    static BigInteger read(ExactFractions x, int number, int part) {
+    /** What the 150 words of a part tell. */
+    static BigInteger read(Fractions x, int number, int part) {
         BigInteger value = BigInteger.ZERO;
-        for (int i = 151; i >= 0; i--) {
+        for (int i = 149; i >= 0; i--) {
             value = value.shiftLeft(32).add(BigInteger.valueOf(x.word(number, part, i) & 0xFFFFFFFFL));
         }
         return value;
-    }
-
-    /** All that an object tells without being changed. */
-    static String state(ExactFractions x) {
-        StringBuilder text = new StringBuilder();
-        for (int number = 0; number < 2; number++) {
-            for (int part = 0; part < 2; part++) {
-                text.append(x.bits(number, part)).append(':');
-                text.append(read(x, number, part).toString(16)).append(' ');
-            }
-            text.append(x.round(number, false)).append(' ').append(x.round(number, true)).append(' ');
-        }
-        return text.append(x.compare()).toString();
     }
 }

@@ -1,44 +1,73 @@
 import java.math.BigInteger;
+import java.util.ArrayList;
+import java.util.List;
 import java.util.Random;
 
 /** All promises: long runs of calls of every kind, each answer against the model's. */
 public final class RandomRunsTest {
     private static final Check CHECK = new Check("RandomRunsTest");
-    private static final int CALLS = 512;
+    private static final int RUNS = 600;
 
+    // What reads a state at the end of a run takes up to 151 calls.
+    private static final int CALLS_BEFORE_STATE = Counted.MOST_CALLS - 151;
+
+    private final String name;
     private final Random random;
-    private final ExactFractions x = new ExactFractions();
+    private final Counted x = new Counted();
     private final Model model = new Model();
+    private final List<State.Call> made = new ArrayList<>();
     private final int wrongCalls;
 
-    private RandomRunsTest(long seed) {
+    private RandomRunsTest(int seed) {
+        name = "run " + seed + ", call ";
         random = new Random(seed);
         wrongCalls = random.nextBoolean() ? 10 : 100;
     }
 
     public static void main(String[] args) {
-        for (int seed = 0; seed < 400 && !CHECK.isWrong(); seed++) {
+        for (int seed = 0; seed < RUNS && !CHECK.isWrong(); seed++) {
             RandomRunsTest run = new RandomRunsTest(seed);
-            if (seed % 4 == 0) {
+            if (seed % 4 < 2) {
                 run.fillUp();
             }
-            for (int i = 0; i < CALLS && !CHECK.isWrong(); i++) {
-                run.call("run " + seed + ", call " + i + ": ");
+            if (seed % 2 == 0) {
+                run.callsUntilLeft(0);
+            } else {
+                run.callsUntilLeft(Counted.MOST_CALLS - CALLS_BEFORE_STATE);
+                run.endsAsDue();
             }
-            run.allWords("run " + seed + " at its end: ");
         }
         CHECK.end();
     }
 
     /** Near the greatest length, where FULL is told. */
     private void fillUp() {
-        for (int number = 0; number < 2; number++) {
-            for (int part = 0; part < 2; part++) {
-                BigInteger value = new BigInteger(4700 + random.nextInt(101), random).setBit(4700);
-                Numbers.put(x, number, part, value);
-                model.parts[number][part] = value;
-            }
+        BigInteger value = new BigInteger(4700 + random.nextInt(101), random).setBit(4700);
+        ask("all four parts of " + value.bitLength() + " bits", y -> {
+            Numbers.putAll(y, value);
+            return 0;
+        });
+    }
+
+    private void callsUntilLeft(int left) {
+        while (x.callsLeft() > left && !CHECK.isWrong()) {
+            call();
         }
+    }
+
+    private void endsAsDue() {
+        State.Recipe again = y -> {
+            for (State.Call call : made) {
+                call.on(y);
+            }
+        };
+        CHECK.same(name + "all at its end", State.of(again), State.due(again));
+    }
+
+    private void ask(String text, State.Call call) {
+        String at = name + made.size() + ": ";
+        made.add(call);
+        CHECK.due(at + text, call.on(x), call.on(model));
     }
 
     private int which() {
@@ -71,65 +100,51 @@ public final class RandomRunsTest {
         return model.parts[number][0].bitLength() - model.parts[number][1].bitLength();
     }
 
-    private void call(String at) {
+    private void call() {
         int n = which();
         int p = which();
         boolean b = random.nextBoolean();
         switch (random.nextInt(16)) {
             case 0:
                 if (random.nextInt(10) == 0) {
-                    CHECK.due(at + "begin(" + n + ")", x.begin(n), model.begin(n));
+                    ask("begin(" + n + ")", y -> y.begin(n));
                 }
                 break;
             case 1:
-                long v = random.nextLong() >>> random.nextInt(64);
-                v = random.nextInt(20) == 0 ? 0 : v;
+                long v = random.nextInt(20) == 0 ? 0 : random.nextLong() >>> random.nextInt(64);
                 if (random.nextInt(4) == 0) {
-                    CHECK.due(at + "set(" + n + ", " + p + ", " + v + ")", x.set(n, p, v), model.set(n, p, v));
+                    ask("set(" + n + ", " + p + ", " + v + ")", y -> y.set(n, p, v));
                 }
                 break;
             case 2:
             case 3:
                 int e = exponent();
-                CHECK.due(at + "scale(" + n + ", " + b + ", " + e + ")", x.scale(n, b, e), model.scale(n, b, e));
+                ask("scale(" + n + ", " + b + ", " + e + ")", y -> y.scale(n, b, e));
                 break;
             case 4:
-                CHECK.due(at + "turn(" + n + ")", x.turn(n), model.turn(n));
+                ask("turn(" + n + ")", y -> y.turn(n));
                 break;
             case 5:
             case 6:
-                CHECK.due(at + "move(" + n + ", " + b + ")", x.move(n, b), model.move(n, b));
+                ask("move(" + n + ", " + b + ")", y -> y.move(n, b));
                 break;
             case 7:
-                CHECK.due(at + "bits(" + n + ", " + p + ")", x.bits(n, p), model.bits(n, p));
+                ask("bits(" + n + ", " + p + ")", y -> y.bits(n, p));
                 break;
             case 8:
                 int i = random.nextInt(5) == 0 ? random.nextInt() : random.nextInt(160) - 4;
-                CHECK.due(at + "word(" + n + ", " + p + ", " + i + ")", x.word(n, p, i), model.word(n, p, i));
+                ask("word(" + n + ", " + p + ", " + i + ")", y -> y.word(n, p, i));
                 break;
             case 9:
-                CHECK.due(at + "compare()", x.compare(), model.compare());
+                ask("compare()", y -> y.compare());
                 break;
             case 10:
-                CHECK.due(at + "round(" + n + ", " + b + ")", x.round(n, b), model.round(n, b));
+                ask("round(" + n + ", " + b + ")", y -> y.round(n, b));
                 break;
             default:
                 int by = upTo(1000000);
                 int more = upTo(1000000);
-                CHECK.due(at + "digit(" + n + ", " + p + ", " + by + ", " + more + ")",
-                        x.digit(n, p, by, more), model.digit(n, p, by, more));
+                ask("digit(" + n + ", " + p + ", " + by + ", " + more + ")", y -> y.digit(n, p, by, more));
         }
-    }
-
-    private void allWords(String at) {
-        for (int number = 0; number < 2; number++) {
-            for (int part = 0; part < 2; part++) {
-                CHECK.same(at + "part " + part + " of " + number,
-                        Numbers.read(x, number, part), model.parts[number][part]);
-            }
-            CHECK.due(at + "round down", x.round(number, false), model.round(number, false));
-            CHECK.due(at + "round up", x.round(number, true), model.round(number, true));
-        }
-        CHECK.due(at + "compare()", x.compare(), model.compare());
     }
 }

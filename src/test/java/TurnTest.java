@@ -5,37 +5,61 @@ public final class TurnTest {
     public static void main(String[] args) {
         for (int number = 0; number < 2; number++) {
             turns(number);
+            leavesAllElse(number);
+            partsStayApart(number);
             farExponents(number);
+            zero(number);
         }
-        refused();
+        badNumber();
         CHECK.end();
     }
 
     private static void turns(int number) {
-        ExactFractions x = new ExactFractions();
-        Numbers.put(x, number, 0, Numbers.ones(4800));
-        Numbers.put(x, number, 1, Numbers.power(100));
-        x.scale(number, true, -4800);
-        Numbers.put(x, 1 - number, 5, 9, true, 4);
-        String before = Numbers.state(x);
+        State.Recipe recipe = x -> {
+            Numbers.put(x, number, 0, Numbers.ones(4800));
+            Numbers.put(x, number, 1, Numbers.power(100));
+            x.scale(number, true, -4800);
+        };
+        Counted x = new Counted();
+        recipe.on(x);
         CHECK.due("turn(" + number + ")", x.turn(number), 0);
-        CHECK.same("above", Numbers.read(x, number, 0), Numbers.power(100));
+        CHECK.due("bits of above", x.bits(number, 0), 101);
         CHECK.same("under", Numbers.read(x, number, 1), Numbers.ones(4800));
         // -2 ^ 100 / (2 ^ 4800 - 1) * 2 ^ 4800 is just below -2 ^ 100.
         CHECK.due("round up", x.round(number, true), Double.doubleToLongBits(-0x1p100));
         CHECK.due("round down", x.round(number, false), Double.doubleToLongBits(Math.nextDown(-0x1p100)));
-        CHECK.due("the other's above stays", x.word(1 - number, 0, 0), 5);
-        CHECK.due("the other's under stays", x.word(1 - number, 1, 0), 9);
-        CHECK.due("turn(" + number + ") back", x.turn(number), 0);
-        CHECK.same("the state after two turns", Numbers.state(x), before);
-        // What was above is still a part of its own: later changes do not mix the two.
+        CHECK.same("all after two turns", State.of(y -> {
+            recipe.on(y);
+            y.turn(number);
+            y.turn(number);
+        }), State.of(recipe));
+    }
+
+    /** "Above and under are put one in place of the other, E becomes -E": the sign and the other number stay. */
+    private static void leavesAllElse(int number) {
+        for (State.Recipe from : new State.Recipe[] {State.SMALL, State.LONGEST}) {
+            State.Recipe recipe = x -> {
+                from.on(x);
+                x.turn(number);
+            };
+            CHECK.same("all after turn(" + number + ")", State.of(recipe), State.due(recipe));
+        }
+    }
+
+    /** What was above is still a part of its own: later changes do not mix the two. */
+    private static void partsStayApart(int number) {
+        Counted x = new Counted();
+        Numbers.put(x, number, 0, Numbers.ones(4800));
         x.turn(number);
         x.set(number, 0, 6);
         CHECK.same("under after set of above", Numbers.read(x, number, 1), Numbers.ones(4800));
+        x.set(number, 1, 7);
+        CHECK.due("above after set of under", x.word(number, 0, 0), 6);
     }
 
+    /** E at its bounds goes to the other bound. */
     private static void farExponents(int number) {
-        ExactFractions x = new ExactFractions();
+        Counted x = new Counted();
         x.set(number, 0, 1);
         x.scale(number, false, -12000);
         CHECK.due("turn of 2 ^ -12000", x.turn(number), 0);
@@ -47,18 +71,30 @@ public final class TurnTest {
         CHECK.due("compare() with 2 ^ -12000", x.compare(), 0);
     }
 
-    private static void refused() {
-        ExactFractions x = new ExactFractions();
-        x.set(0, 1, 7);
-        x.scale(0, true, 9);
-        Numbers.put(x, 1, 99, 7, false, -3);
-        String before = Numbers.state(x);
-        CHECK.due("turn(0) of 0", x.turn(0), ExactFractions.ZERO);
-        for (int no : Numbers.NO_SUCH) {
-            CHECK.due("turn(" + no + ")", x.turn(no), ExactFractions.BAD);
+    /** "ZERO: it is 0", with or without a sign, whatever under and E are, and nothing changes. */
+    private static void zero(int number) {
+        String call = "turn(" + number + ")";
+        for (int e : new int[] {-12000, 0, 9, 12000}) {
+            for (int under : new int[] {1, 7}) {
+                for (int sign = 0; sign < 2; sign++) {
+                    boolean below = sign == 1;
+                    State.Recipe recipe = x -> {
+                        State.SMALL.on(x);
+                        Numbers.put(x, number, 0, under, below, e);
+                    };
+                    State.changesNothing(CHECK, "0 / " + under + " * 2 ^ " + e, recipe, call,
+                            x -> x.turn(number), ExactFractions.ZERO);
+                }
+            }
         }
-        CHECK.same("the state after refusals", Numbers.state(x), before);
-        x.set(0, 0, 7);
-        CHECK.due("sign and E stayed", x.round(0, true), Double.doubleToLongBits(-512.0));
+        State.changesNothing(CHECK, "a new object", State.NEW, call, x -> x.turn(number), ExactFractions.ZERO);
+        State.changesNothing(CHECK, "zeros", State.ZEROS, call, x -> x.turn(number), ExactFractions.ZERO);
+    }
+
+    /** "BAD: no such number", and nothing changes. */
+    private static void badNumber() {
+        for (int no : Numbers.NO_SUCH) {
+            State.changesNothing(CHECK, "turn(" + no + ")", x -> x.turn(no), ExactFractions.BAD);
+        }
     }
 }
